@@ -45,7 +45,7 @@ public final class RootTowers {
         }
         int ratio = numbers.whole(down);
         numbers.whole(up);
-        return adopted(0, ratio);
+        return elements.adopt(0, ratio);
     }
 
     public int apply(int op, int a, int b) {
@@ -59,12 +59,12 @@ public final class RootTowers {
         int p = elements.widened(k, a);
         int q = elements.widened(k, b);
         if (op == 2) {
-            return adopted(k, field.ratioProduct(k, p, q));
+            return elements.adopt(k, field.ratioProduct(k, p, q));
         }
         if (op == 3) {
-            return adopted(k, field.ratioQuotient(k, p, q));
+            return elements.adopt(k, field.ratioQuotient(k, p, q));
         }
-        return adopted(k, field.ratioSum(k, p, q, op == 0 ? 1 : -1));
+        return elements.adopt(k, field.ratioSum(k, p, q, op == 0 ? 1 : -1));
     }
 
     public int plain(int a) throws ArithmeticException {
@@ -76,26 +76,30 @@ public final class RootTowers {
         }
         int k = elements.rank[a];
         int one = field.unitRatio(k, 0);
-        return adopted(k, field.ratioQuotient(k, one, elements.place[a]));
+        return elements.adopt(k, field.ratioQuotient(k, one, elements.place[a]));
     }
 
     public int root(int a) {
         if (!elements.has(a) || elements.isFull()) {
             return NONE;
         }
-        if (elements.signOf(a) < 0) {
+        if (elements.signAt(elements.rank[a], numbers.next(elements.place[a])) < 0) {
             return NEGATIVE;
         }
         int k = field.height;
         int found = field.ratioRoot(k, elements.widened(k, a));
-        if (found < 0) {
+        if (found < 0 && k >= MOST_ROOTS) {
             numbers.rest();
-            return k < MOST_ROOTS ? joined(a) : DEEP;
+            return DEEP;
+        }
+        if (found < 0) {
+            elements.join(a);
+            return elements.adopt(k + 1, field.unitRatio(k + 1, 1 << k));
         }
         if (elements.signAt(k, numbers.next(found)) < 0) {
-            numbers.turn(found);
+            numbers.turn(numbers.next(found));
         }
-        return adopted(k, found);
+        return elements.adopt(k, found);
     }
 
     public int isSquare(int a) {
@@ -109,7 +113,10 @@ public final class RootTowers {
     }
 
     public int sign(int a) {
-        return elements.has(a) ? elements.signOf(a) : NO_SIGN;
+        if (!elements.has(a)) {
+            return NO_SIGN;
+        }
+        return elements.signAt(elements.rank[a], numbers.next(elements.place[a]));
     }
 
     public int compare(int a, int b) {
@@ -168,7 +175,11 @@ public final class RootTowers {
     }
 
     public int cut(int a, int digits) {
-        if (!elements.has(a) || digits < 0 || digits > MOST_DIGITS || elements.isBeyondCut(a)) {
+        if (!elements.has(a) || digits < 0 || digits > MOST_DIGITS) {
+            return NONE;
+        }
+        if (elements.isBeyondCut(a, elements.floorOf(a, 0))) {
+            numbers.rest();
             return NONE;
         }
         int floor = elements.floorOf(a, digits);
@@ -242,28 +253,8 @@ public final class RootTowers {
         numbers.reset();
         field.reset();
         elements.reset();
-        least.drop();
         script.length = 0;
         numbers.settle();
-    }
-
-    /** The ratio on top of the stack becomes an element, unless it is too wide. */
-    private int adopted(int k, int ratio) {
-        int answer = elements.adopt(k, ratio);
-        if (answer < 0) {
-            numbers.rest();
-        } else {
-            least.drop();
-        }
-        return answer;
-    }
-
-    private int joined(int a) {
-        least.drop();
-        numbers.top = numbers.firm;
-        elements.join(a);
-        int k = field.height;
-        return elements.adopt(k, field.unitRatio(k, 1 << (k - 1)));
     }
 
     private int resulted(int pair) {
@@ -273,8 +264,9 @@ public final class RootTowers {
     }
 
     /**
-     * Whole numbers in one row of cells: at its address a number has the count of its limbs, below 0
-     * if it is below 0, and behind it the limbs, lowest first. What makes a number puts it on top.
+     * Whole numbers in one row of cells: at its address a number has twice the count of its limbs,
+     * and 1 more if it is below 0, and behind that the limbs, lowest first. What makes a number puts
+     * it on top.
      */
     private static final class Numbers {
         static final int BASE = 1000000000;
@@ -329,27 +321,27 @@ public final class RootTowers {
             }
         }
 
-        int size(int p) {
-            int n = cell[p];
-            return n < 0 ? -n : n;
-        }
-
         int next(int p) {
-            return p + 1 + size(p);
+            return p + 1 + (cell[p] >> 1);
         }
 
         int skip(int p, int n) {
             int at = p;
             for (int i = 0; i < n; i++) {
-                at += 1 + size(at);
+                at += 1 + (cell[at] >> 1);
             }
             return at;
         }
 
         int signAt(int p) {
-            return Integer.compare(cell[p], 0);
+            return cell[p] == 0 ? 0 : 1 - 2 * (cell[p] & 1);
         }
 
+        boolean isBelow(int p) {
+            return (cell[p] & 1) == 1;
+        }
+
+        /** Whether n numbers that stand one behind the other are all 0, each then a single cell. */
         boolean areNought(int p, int n) {
             for (int i = 0; i < n; i++) {
                 if (cell[p + i] != 0) {
@@ -365,7 +357,7 @@ public final class RootTowers {
             while (most > 0 && cell[p + most] == 0) {
                 most--;
             }
-            cell[p] = below ? -most : most;
+            cell[p] = most == 0 ? 0 : 2 * most + (below ? 1 : 0);
             top = p + 1 + most;
             return p;
         }
@@ -406,19 +398,20 @@ public final class RootTowers {
             return to;
         }
 
-        /** Changes the signs of all numbers from behind p to the top. */
+        /** Changes the signs of all numbers from p to the top, of a ratio at most. */
         void turn(int p) {
-            int at = next(p);
-            for (int i = 0; i < MOST_COORDINATES && at < top; i++) {
-                int n = cell[at];
-                cell[at] = -n;
-                at += 1 + (n < 0 ? -n : n);
+            int at = p;
+            for (int i = 0; i <= MOST_COORDINATES && at < top; i++) {
+                if (cell[at] != 0) {
+                    cell[at] ^= 1;
+                }
+                at += 1 + (cell[at] >> 1);
             }
         }
 
         int sizeOrder(int p, int q) {
-            int m = size(p);
-            int n = size(q);
+            int m = cell[p] >> 1;
+            int n = cell[q] >> 1;
             if (m != n) {
                 return m < n ? -1 : 1;
             }
@@ -437,48 +430,31 @@ public final class RootTowers {
 
         /** p + q, or p - q if the factor is below 0. */
         int sum(int p, int q, int factor) {
-            int a = cell[p];
-            int b = factor < 0 ? -cell[q] : cell[q];
-            if (a == 0 || b == 0 || (a < 0) == (b < 0)) {
-                return added(p, q, a < 0 || b < 0);
-            }
-            return sizeOrder(p, q) < 0 ? lessened(q, p, b < 0) : lessened(p, q, a < 0);
-        }
-
-        private int added(int p, int q, boolean below) {
-            int m = size(p);
-            int n = size(q);
-            int most = Math.max(m, n);
-            room(most + 2);
+            boolean pBelow = (cell[p] & 1) == 1;
+            boolean qBelow = (cell[q] & 1) == 1 != factor < 0;
+            boolean apart = cell[p] != 0 && cell[q] != 0 && pBelow != qBelow;
+            boolean turned = sizeOrder(p, q) < 0;
+            int larger = turned ? q : p;
+            int smaller = turned ? p : q;
+            int m = cell[larger] >> 1;
+            int n = cell[smaller] >> 1;
+            room(m + 2);
+            int[] c = cell;
             int r = top;
             int carry = 0;
-            for (int i = 1; i <= most; i++) {
-                int limb = carry + (i <= m ? cell[p + i] : 0) + (i <= n ? cell[q + i] : 0);
-                carry = limb >= BASE ? 1 : 0;
-                cell[r + i] = carry == 0 ? limb : limb - BASE;
-            }
-            cell[r + most + 1] = carry;
-            return sealed(r, most + 1, below);
-        }
-
-        /** p - q without signs; p is no smaller. */
-        private int lessened(int p, int q, boolean below) {
-            int m = size(p);
-            int n = size(q);
-            room(m + 1);
-            int r = top;
-            int borrow = 0;
             for (int i = 1; i <= m; i++) {
-                int limb = cell[p + i] - borrow - (i <= n ? cell[q + i] : 0);
-                borrow = limb < 0 ? 1 : 0;
-                cell[r + i] = borrow == 0 ? limb : limb + BASE;
+                int second = i > n ? 0 : apart ? -c[smaller + i] : c[smaller + i];
+                int limb = c[larger + i] + second + carry;
+                carry = limb >= BASE ? 1 : limb < 0 ? -1 : 0;
+                c[r + i] = limb - carry * BASE;
             }
-            return sealed(r, m, below);
+            c[r + m + 1] = carry;
+            return sealed(r, m + 1, turned ? qBelow : pBelow);
         }
 
         int times(int p, int q) {
-            int m = size(p);
-            int n = size(q);
+            int m = cell[p] >> 1;
+            int n = cell[q] >> 1;
             room(m + n + 1);
             int r = top;
             if (m == 0 || n == 0) {
@@ -501,23 +477,23 @@ public final class RootTowers {
                 column = carry + over;
             }
             c[r + m + n] = (int) column;
-            return sealed(r, m + n, (c[p] < 0) != (c[q] < 0));
+            return sealed(r, m + n, ((c[p] ^ c[q]) & 1) == 1);
         }
 
         /** p times the n-th power of the base. */
         int raised(int p, int n) {
-            int m = size(p);
+            int m = cell[p] >> 1;
             room(m + n + 1);
             int r = top;
             Arrays.fill(cell, r + 1, r + 1 + n, 0);
             System.arraycopy(cell, p + 1, cell, r + 1 + n, m);
-            return sealed(r, m + n, cell[p] < 0);
+            return sealed(r, m + n, isBelow(p));
         }
 
         /** Takes the n lowest limbs from the number p, which is on top. */
         void lowered(int p, int n) {
-            int left = Math.max(size(p) - n, 0);
-            boolean below = cell[p] < 0;
+            int left = Math.max((cell[p] >> 1) - n, 0);
+            boolean below = isBelow(p);
             if (left > 0) {
                 System.arraycopy(cell, p + 1 + n, cell, p + 1, left);
             }
@@ -526,7 +502,7 @@ public final class RootTowers {
 
         /** Halves the number p, which is on top and not below 0, and drops what is left over. */
         void halve(int p) {
-            int n = size(p);
+            int n = cell[p] >> 1;
             int odd = 0;
             for (int i = n; i > 0; i--) {
                 int limb = cell[p + i];
@@ -544,11 +520,11 @@ public final class RootTowers {
                 copied(p, 1);
                 return start;
             }
-            return size(q) == 1 ? dividedByLimb(p, q) : dividedByLimbs(p, q);
+            return cell[q] >> 1 == 1 ? dividedByLimb(p, q) : dividedByLimbs(p, q);
         }
 
         private int dividedByLimb(int p, int q) {
-            int m = size(p);
+            int m = cell[p] >> 1;
             room(m + 3);
             int r = top;
             long by = Math.max(cell[q + 1], 1);
@@ -559,17 +535,17 @@ public final class RootTowers {
                 cell[r + i] = (int) part;
                 left = limb - part * by;
             }
-            sealed(r, m, (cell[p] < 0) != (cell[q] < 0));
+            sealed(r, m, ((cell[p] ^ cell[q]) & 1) == 1);
             int rest = top;
             cell[rest + 1] = (int) left;
-            sealed(rest, 1, cell[p] < 0);
+            sealed(rest, 1, isBelow(p));
             return r;
         }
 
         /** Long division; both are first multiplied so that the divisor's highest limb is large. */
         private int dividedByLimbs(int p, int q) {
-            int m = size(p);
-            int n = size(q);
+            int m = cell[p] >> 1;
+            int n = cell[q] >> 1;
             room(2 * m + 8);
             int r = top;
             int u = r + m - n + 3;
@@ -586,10 +562,10 @@ public final class RootTowers {
                 cell[u + i] = (int) (limb / factor);
                 left = limb % factor;
             }
-            sealed(r, m - n + 1, (cell[p] < 0) != (cell[q] < 0));
+            sealed(r, m - n + 1, ((cell[p] ^ cell[q]) & 1) == 1);
             int rest = top;
             System.arraycopy(cell, u, cell, rest + 1, n);
-            sealed(rest, n, cell[p] < 0);
+            sealed(rest, n, isBelow(p));
             return r;
         }
 
@@ -646,7 +622,7 @@ public final class RootTowers {
         /** The greatest whole number that is at most p / q, for q above 0. */
         int floor(int p, int q) {
             int r = divided(p, q);
-            boolean lower = cell[next(r)] < 0;
+            boolean lower = isBelow(next(r));
             top = next(r);
             return lower ? slid(r, sum(r, ONE, -1)) : r;
         }
@@ -654,7 +630,7 @@ public final class RootTowers {
         /** The greatest common divisor, not below 0. */
         int divisor(int p, int q) {
             boolean turned = sizeOrder(p, q) < 0;
-            int n = Math.max(size(p), size(q));
+            int n = Math.max(cell[p] >> 1, cell[q] >> 1);
             room(2 * n + 6);
             int start = top;
             int a = start;
@@ -663,9 +639,9 @@ public final class RootTowers {
             place(turned ? p : q, b);
             top = b + n + 2;
             int above = top;
-            for (int i = 0; i < 44 * n + 8 && cell[b] != 0 && cell[a] > 2; i++) {
+            for (int i = 0; i < 44 * n + 8 && cell[b] != 0 && cell[a] > 4; i++) {
                 if (!leaped(a, b)) {
-                    int rest = next(cell[b] == 1 ? dividedByLimb(a, b) : dividedByLimbs(a, b));
+                    int rest = next(cell[b] == 2 ? dividedByLimb(a, b) : dividedByLimbs(a, b));
                     place(rest, a);
                     int c = a;
                     a = b;
@@ -682,9 +658,9 @@ public final class RootTowers {
 
         /** Copies a number without its sign to an address that has room for it. */
         private void place(int p, int to) {
-            int n = size(p);
+            int n = cell[p] >> 1;
             System.arraycopy(cell, p + 1, cell, to + 1, n);
-            cell[to] = n;
+            cell[to] = 2 * n;
         }
 
         /** For numbers of at most two limbs, not below 0: a becomes their common divisor. */
@@ -698,12 +674,13 @@ public final class RootTowers {
             }
             cell[a + 1] = (int) (x % BASE);
             cell[a + 2] = (int) (x / BASE);
-            cell[a] = cell[a + 2] != 0 ? 2 : 1;
+            cell[a] = cell[a + 2] != 0 ? 4 : 2;
         }
 
         private long value(int p) {
-            long high = size(p) > 1 ? cell[p + 2] : 0;
-            return high * BASE + (size(p) > 0 ? cell[p + 1] : 0);
+            int n = cell[p] >> 1;
+            long high = n > 1 ? cell[p + 2] : 0;
+            return high * BASE + (n > 0 ? cell[p + 1] : 0);
         }
 
         /**
@@ -711,11 +688,12 @@ public final class RootTowers {
          * and b settle (Lehmer); false if they settle none.
          */
         private boolean leaped(int a, int b) {
-            int n = cell[a];
-            if (cell[b] < n - 1) {
+            int n = cell[a] >> 1;
+            int m = cell[b] >> 1;
+            if (m < n - 1) {
                 return false;
             }
-            Arrays.fill(cell, b + 1 + cell[b], b + 1 + n, 0);
+            Arrays.fill(cell, b + 1 + m, b + 1 + n, 0);
             int shift = LIMB_FIGURES - limbFigures(cell[a + n]);
             long x = highFigures(a, n, shift);
             long y = highFigures(b, n, shift);
@@ -751,17 +729,17 @@ public final class RootTowers {
                 carryA = Math.floorDiv(carryA, (long) BASE);
                 carryB = Math.floorDiv(carryB, (long) BASE);
             }
-            cell[a] = trimmed(a, n);
-            cell[b] = trimmed(b, n);
+            trim(a, n);
+            trim(b, n);
             return true;
         }
 
-        private int trimmed(int p, int n) {
+        private void trim(int p, int n) {
             int most = n;
             while (most > 0 && cell[p + most] == 0) {
                 most--;
             }
-            return most;
+            cell[p] = 2 * most;
         }
 
         /** The 18 figures from limb n down, its first shift figures left out as noughts. */
@@ -780,7 +758,7 @@ public final class RootTowers {
 
         /** The greatest whole number whose square is at most p, for p not below 0. */
         int floorRoot(int p) {
-            int n = size(p);
+            int n = cell[p] >> 1;
             if (n <= 2) {
                 return whole(smallRoot(value(p)));
             }
@@ -820,8 +798,7 @@ public final class RootTowers {
 
         /** The whole root of a number, or -1 if it has none. */
         int exactRoot(int p) {
-            int n = cell[p];
-            if (n < 0 || n > 0 && (SQUARES_BY_16 >> (cell[p + 1] & 15) & 1) == 0) {
+            if (isBelow(p) || cell[p] != 0 && (SQUARES_BY_16 >> (cell[p + 1] & 15) & 1) == 0) {
                 return -1;
             }
             int r = floorRoot(p);
@@ -838,15 +815,14 @@ public final class RootTowers {
             top = next(up);
             int down = divided(q, by);
             top = next(down);
-            if (cell[down] < 0) {
-                cell[up] = -cell[up];
-                cell[down] = -cell[down];
+            if (isBelow(down)) {
+                turn(up);
             }
             return slid(start, up);
         }
 
         int figures(int p) {
-            int n = size(p);
+            int n = cell[p] >> 1;
             return n == 0 ? 1 : (n - 1) * LIMB_FIGURES + limbFigures(cell[p + n]);
         }
 
@@ -867,9 +843,9 @@ public final class RootTowers {
 
         void keepResult(int pair) {
             int bottom = next(pair);
-            if (size(pair) < RESULT_ROOM && size(bottom) < RESULT_ROOM) {
-                System.arraycopy(cell, pair, cell, RESULT_TOP, 1 + size(pair));
-                System.arraycopy(cell, bottom, cell, RESULT_BOTTOM, 1 + size(bottom));
+            if ((cell[pair] >> 1) < RESULT_ROOM && (cell[bottom] >> 1) < RESULT_ROOM) {
+                System.arraycopy(cell, pair, cell, RESULT_TOP, 1 + (cell[pair] >> 1));
+                System.arraycopy(cell, bottom, cell, RESULT_BOTTOM, 1 + (cell[bottom] >> 1));
             }
         }
     }
@@ -892,12 +868,12 @@ public final class RootTowers {
             scale[0] = Numbers.ONE;
         }
 
-        /** A new root of the number in a ratio: its multiple by the bottom has a whole square. */
-        void grow(int ratio) {
+        /** A new root, of the number in a ratio of level k: times the bottom its square is whole. */
+        void grow(int k, int ratio) {
             int wide = 1 << height;
-            int v = numbers.next(ratio);
             height++;
-            square[height] = multiplied(wide, v, ratio);
+            square[height] = multiplied(1 << k, numbers.next(ratio), ratio);
+            numbers.noughts(wide - (1 << k));
             for (int i = 0; i < wide; i++) {
                 scale[wide + i] = numbers.times(scale[i], ratio);
             }
@@ -1007,19 +983,9 @@ public final class RootTowers {
             int w = numbers.next(bottom);
             int r = numbers.copied(bottom, 1);
             product(k - 1, v, w);
-            int behind = numbers.next(r);
-            int high = product(k - 1, y, w);
-            turnAll(high, n);
+            numbers.turn(product(k - 1, y, w));
             numbers.slid(start, r);
             return reduced(k, start);
-        }
-
-        private void turnAll(int v, int n) {
-            int p = v;
-            for (int i = 0; i < n; i++) {
-                numbers.cell[p] = -numbers.cell[p];
-                p = numbers.next(p);
-            }
         }
 
         /** Takes what all numbers of the ratio on top have in common out; its bottom is above 0. */
@@ -1034,12 +1000,16 @@ public final class RootTowers {
                 }
                 p = numbers.next(p);
             }
-            boolean turned = numbers.cell[ratio] < 0;
-            if (isOne(common) && !turned) {
+            if (isOne(common)) {
                 numbers.top = start;
+                if (numbers.isBelow(ratio)) {
+                    numbers.turn(ratio);
+                }
                 return ratio;
             }
-            numbers.cell[common] = turned ? -numbers.size(common) : numbers.size(common);
+            if (numbers.isBelow(ratio) != numbers.isBelow(common)) {
+                numbers.turn(common);
+            }
             int r = numbers.top;
             p = ratio;
             for (int i = 0; i <= n; i++) {
@@ -1050,7 +1020,7 @@ public final class RootTowers {
         }
 
         private boolean isOne(int p) {
-            return numbers.cell[p] == 1 && numbers.cell[p + 1] == 1;
+            return numbers.cell[p] == 2 && numbers.cell[p + 1] == 1;
         }
 
         int ratioSum(int k, int p, int q, int factor) {
@@ -1134,7 +1104,7 @@ public final class RootTowers {
 
         /**
          * Of x + y R with y not 0: if u + w R is a root, the norm has the root u u - w w Q, up to
-         * its sign, and half of x with that added is u u.
+         * its sign, and half of x with that added is u u; then w is y / (2 u).
          */
         private int mixedRoot(int k, int v, int y) {
             int start = numbers.top;
@@ -1151,36 +1121,32 @@ public final class RootTowers {
                 vectorSum(n, raised, numbers.next(found), factor);
                 int u = ratioRoot(k - 1, reduced(k - 1, half));
                 if (u >= 0) {
-                    return numbers.slid(start, completed(k, u, y));
+                    int by = inverse(k - 1, numbers.next(u));
+                    int twice = numbers.sum(by, by, 1);
+                    int squared = numbers.times(u, u);
+                    int high = product(k - 1, y, numbers.next(by));
+                    int r = numbers.times(twice, u);
+                    multiplied(n, numbers.next(u), twice);
+                    multiplied(n, high, squared);
+                    return reduced(k, numbers.slid(start, r));
                 }
             }
             return -1;
-        }
-
-        /** The ratio u + y / (2 u) R. */
-        private int completed(int k, int u, int y) {
-            int n = 1 << (k - 1);
-            int by = inverse(k - 1, numbers.next(u));
-            int twice = numbers.sum(by, by, 1);
-            int squared = numbers.times(u, u);
-            int high = product(k - 1, y, numbers.next(by));
-            int r = numbers.times(twice, u);
-            multiplied(n, numbers.next(u), twice);
-            multiplied(n, high, squared);
-            return reduced(k, r);
         }
     }
 
     /** Bounds of the products of the R_k, as whole multiples of a small unit. */
     private static final class Spans {
         final Numbers numbers;
+        final Field field;
         final int[] low = new int[MOST_COORDINATES];
         final int[] high = new int[MOST_COORDINATES];
         /** The unit is 1 over this power of the base. */
         int places;
 
-        Spans(Numbers numbers) {
+        Spans(Numbers numbers, Field field) {
             this.numbers = numbers;
+            this.field = field;
         }
 
         void begin(int newPlaces) {
@@ -1189,21 +1155,23 @@ public final class RootTowers {
             high[0] = low[0];
         }
 
-        /** Bounds for root k, the square of which is given, and all products with it. */
-        void widen(int k, int square) {
-            int n = 1 << (k - 1);
-            low[n] = rootBound(n, square, false);
-            high[n] = rootBound(n, square, true);
-            for (int i = 1; i < n; i++) {
-                low[n + i] = productBound(low[i], low[n], false);
-                high[n + i] = productBound(high[i], high[n], true);
+        /** Bounds for roots that come next, and for all products with them. */
+        void widen(int first, int last) {
+            for (int k = first; k <= last; k++) {
+                int n = 1 << (k - 1);
+                low[n] = rootBound(n, field.square[k], false);
+                high[n] = rootBound(n, field.square[k], true);
+                for (int i = 1; i < n; i++) {
+                    low[n + i] = productBound(low[i], low[n], false);
+                    high[n + i] = productBound(high[i], high[n], true);
+                }
             }
         }
 
         private int rootBound(int n, int square, boolean upper) {
             int start = numbers.top;
             int inside = bound(n, square, upper);
-            if (numbers.cell[inside] < 0) {
+            if (numbers.isBelow(inside)) {
                 numbers.top = start;
                 return numbers.whole(0);
             }
@@ -1224,7 +1192,7 @@ public final class RootTowers {
             int p = v;
             for (int i = 0; i < n; i++) {
                 if (numbers.cell[p] != 0) {
-                    boolean far = numbers.cell[p] > 0 == upper;
+                    boolean far = numbers.isBelow(p) != upper;
                     int term = numbers.times(p, far ? high[i] : low[i]);
                     numbers.slid(start, numbers.sum(start, term, 1));
                 }
@@ -1270,8 +1238,8 @@ public final class RootTowers {
         Elements(Numbers numbers, Field field) {
             this.numbers = numbers;
             this.field = field;
-            ready = new Spans(numbers);
-            fine = new Spans(numbers);
+            ready = new Spans(numbers, field);
+            fine = new Spans(numbers, field);
         }
 
         void reset() {
@@ -1309,6 +1277,7 @@ public final class RootTowers {
             numbers.top = numbers.skip(v, 1 << least);
             field.reduced(least, ratio);
             if (isWide(least, ratio)) {
+                numbers.rest();
                 return WIDE;
             }
             place[count] = numbers.slid(numbers.firm, ratio);
@@ -1337,19 +1306,9 @@ public final class RootTowers {
 
         /** Joins the root of an element to the tower. */
         void join(int a) {
-            int wide = widened(field.height, a);
-            int start = numbers.top;
-            field.grow(wide);
-            int k = field.height;
-            ready.widen(k, field.square[k]);
-            int down = start - wide;
-            numbers.slid(wide, start);
-            field.square[k] -= down;
-            for (int i = 1 << (k - 1); i < 1 << k; i++) {
-                field.scale[i] -= down;
-                ready.low[i] -= down;
-                ready.high[i] -= down;
-            }
+            numbers.top = numbers.firm;
+            field.grow(rank[a], place[a]);
+            ready.widen(field.height, field.height);
             numbers.settle();
         }
 
@@ -1364,10 +1323,6 @@ public final class RootTowers {
             return start;
         }
 
-        int signOf(int a) {
-            return signAt(rank[a], numbers.next(place[a]));
-        }
-
         /** The sign of the number that a vector is. */
         int signAt(int k, int v) {
             int n = 1 << k;
@@ -1377,18 +1332,12 @@ public final class RootTowers {
             int start = numbers.top;
             int s = ready.signWithin(n, v);
             for (int places = 2 * FIRST_PLACES; s == 0 && places <= MOST_PLACES; places *= 2) {
-                refine(k, places);
+                fine.begin(places);
+                fine.widen(1, k);
                 s = fine.signWithin(n, v);
                 numbers.top = start;
             }
             return s;
-        }
-
-        private void refine(int k, int places) {
-            fine.begin(places);
-            for (int j = 1; j <= k; j++) {
-                fine.widen(j, field.square[j]);
-            }
         }
 
         /** The whole part of an element's multiple by 10^digits. */
@@ -1400,26 +1349,21 @@ public final class RootTowers {
             boolean open = !numbers.areSame(least, ready.floorBound(n, place[a], ten, true));
             for (int places = 2 * FIRST_PLACES; open && places <= MOST_PLACES; places *= 2) {
                 numbers.top = start;
-                refine(rank[a], places);
+                fine.begin(places);
+                fine.widen(1, rank[a]);
                 least = fine.floorBound(n, place[a], ten, false);
                 open = !numbers.areSame(least, fine.floorBound(n, place[a], ten, true));
             }
             return least;
         }
 
-        /** Whether an element is not between -1000000 and 1000000. */
-        boolean isBeyondCut(int a) {
-            int floor = floorOf(a, 0);
+        /** Whether an element with this whole part is not between -1000000 and 1000000. */
+        boolean isBeyondCut(int a, int floor) {
             int limit = numbers.whole(CUT_LIMIT);
             int order = numbers.sizeOrder(floor, limit);
-            boolean below = numbers.cell[floor] < 0;
-            numbers.rest();
-            // At the lower limit itself only a number that is no fraction lies above its whole part.
-            return order > 0 || order == 0 && (!below || rank[a] == 0 && isWhole(a));
-        }
-
-        private boolean isWhole(int a) {
-            return numbers.areSame(place[a], Numbers.ONE);
+            boolean isWhole = rank[a] == 0 && numbers.areSame(place[a], Numbers.ONE);
+            // With the lower limit as its whole part a number is above that limit if it is not whole.
+            return order > 0 || order == 0 && (!numbers.isBelow(floor) || isWhole);
         }
 
         /** Half of x + s n, where n n is x x - y y Q, of an element (x + y R1) / bottom; or -1. */
@@ -1427,7 +1371,7 @@ public final class RootTowers {
             int bottom = place[a];
             int x = numbers.next(bottom);
             int y = rank[a] == 0 ? -1 : numbers.next(x);
-            if (numbers.cell[x] < 0) {
+            if (numbers.isBelow(x)) {
                 return -1;
             }
             int n = numbers.copied(x, 1);
@@ -1447,7 +1391,7 @@ public final class RootTowers {
     private static final class Least {
         final Numbers numbers;
         final Field field;
-        /** The element whose vector's equation stands on top of the firm part; -1 if none does. */
+        /** Whose equation stands on top of the firm part, if anything does. */
         int owner;
         int degree;
         /** Where the two halves of each power's vector are, within one step of the reckoning. */
@@ -1457,11 +1401,6 @@ public final class RootTowers {
         Least(Numbers numbers, Field field) {
             this.numbers = numbers;
             this.field = field;
-            owner = -1;
-        }
-
-        void drop() {
-            owner = -1;
         }
 
         /**
@@ -1469,7 +1408,7 @@ public final class RootTowers {
          * by what comes of it when R_k changes its sign, unless R_k is not in it at all.
          */
         void prepare(int a, int k, int ratio) {
-            if (owner == a) {
+            if (owner == a && numbers.kept > numbers.firm) {
                 return;
             }
             int start = numbers.firm;
