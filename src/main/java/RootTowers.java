@@ -430,8 +430,8 @@ public final class RootTowers {
 
         /** p + q, or p - q if the factor is below 0. */
         int sum(int p, int q, int factor) {
-            boolean pBelow = (cell[p] & 1) == 1;
-            boolean qBelow = (cell[q] & 1) == 1 != factor < 0;
+            boolean pBelow = isBelow(p);
+            boolean qBelow = isBelow(q) != (factor < 0);
             boolean apart = cell[p] != 0 && cell[q] != 0 && pBelow != qBelow;
             boolean turned = sizeOrder(p, q) < 0;
             int larger = turned ? q : p;
