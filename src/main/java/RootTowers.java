@@ -352,7 +352,7 @@ public final class RootTowers {
         }
 
         /** Ends the number at p, of at most n limbs, without noughts in front; it is on top then. */
-        int sealed(int p, int n, boolean below) {
+        int closed(int p, int n, boolean below) {
             int most = n;
             while (most > 0 && cell[p + most] == 0) {
                 most--;
@@ -371,7 +371,7 @@ public final class RootTowers {
                 cell[p + i] = (int) (limb < 0 ? -limb : limb);
                 left /= BASE;
             }
-            return sealed(p, 3, value < 0);
+            return closed(p, 3, value < 0);
         }
 
         void noughts(int n) {
@@ -449,7 +449,7 @@ public final class RootTowers {
                 c[r + i] = limb - carry * BASE;
             }
             c[r + m + 1] = carry;
-            return sealed(r, m + 1, turned ? qBelow : pBelow);
+            return closed(r, m + 1, turned ? qBelow : pBelow);
         }
 
         int times(int p, int q) {
@@ -458,7 +458,7 @@ public final class RootTowers {
             room(m + n + 1);
             int r = top;
             if (m == 0 || n == 0) {
-                return sealed(r, 0, false);
+                return closed(r, 0, false);
             }
             int[] c = cell;
             long column = 0;
@@ -477,7 +477,7 @@ public final class RootTowers {
                 column = carry + over;
             }
             c[r + m + n] = (int) column;
-            return sealed(r, m + n, ((c[p] ^ c[q]) & 1) == 1);
+            return closed(r, m + n, ((c[p] ^ c[q]) & 1) == 1);
         }
 
         /** p times the n-th power of the base. */
@@ -487,17 +487,16 @@ public final class RootTowers {
             int r = top;
             Arrays.fill(cell, r + 1, r + 1 + n, 0);
             System.arraycopy(cell, p + 1, cell, r + 1 + n, m);
-            return sealed(r, m + n, isBelow(p));
+            return closed(r, m + n, isBelow(p));
         }
 
-        /** Takes the n lowest limbs from the number p, which is on top. */
-        void lowered(int p, int n) {
+        /** Takes the n lowest limbs from the number p, which is on top and not below 0. */
+        void lower(int p, int n) {
             int left = Math.max((cell[p] >> 1) - n, 0);
-            boolean below = isBelow(p);
             if (left > 0) {
                 System.arraycopy(cell, p + 1 + n, cell, p + 1, left);
             }
-            sealed(p, left, below);
+            closed(p, left, false);
         }
 
         /** Halves the number p, which is on top and not below 0, and drops what is left over. */
@@ -509,7 +508,7 @@ public final class RootTowers {
                 cell[p + i] = (limb >> 1) + odd * (BASE / 2);
                 odd = limb & 1;
             }
-            sealed(p, n, false);
+            closed(p, n, false);
         }
 
         /** The quotient, cut towards 0, and the rest behind it; a divisor 0 leaves all as rest. */
@@ -535,10 +534,10 @@ public final class RootTowers {
                 cell[r + i] = (int) part;
                 left = limb - part * by;
             }
-            sealed(r, m, ((cell[p] ^ cell[q]) & 1) == 1);
+            closed(r, m, ((cell[p] ^ cell[q]) & 1) == 1);
             int rest = top;
             cell[rest + 1] = (int) left;
-            sealed(rest, 1, isBelow(p));
+            closed(rest, 1, isBelow(p));
             return r;
         }
 
@@ -562,10 +561,10 @@ public final class RootTowers {
                 cell[u + i] = (int) (limb / factor);
                 left = limb % factor;
             }
-            sealed(r, m - n + 1, ((cell[p] ^ cell[q]) & 1) == 1);
+            closed(r, m - n + 1, ((cell[p] ^ cell[q]) & 1) == 1);
             int rest = top;
             System.arraycopy(cell, u, cell, rest + 1, n);
-            sealed(rest, n, isBelow(p));
+            closed(rest, n, isBelow(p));
             return r;
         }
 
@@ -729,12 +728,12 @@ public final class RootTowers {
                 carryA = Math.floorDiv(carryA, (long) BASE);
                 carryB = Math.floorDiv(carryB, (long) BASE);
             }
-            trim(a, n);
-            trim(b, n);
+            shorten(a, n);
+            shorten(b, n);
             return true;
         }
 
-        private void trim(int p, int n) {
+        private void shorten(int p, int n) {
             int most = n;
             while (most > 0 && cell[p + most] == 0) {
                 most--;
@@ -1181,7 +1180,7 @@ public final class RootTowers {
 
         private int productBound(int p, int q, boolean upper) {
             int r = numbers.times(p, q);
-            numbers.lowered(r, places);
+            numbers.lower(r, places);
             return upper ? numbers.slid(r, numbers.sum(r, Numbers.ONE, 1)) : r;
         }
 
@@ -1362,7 +1361,7 @@ public final class RootTowers {
             int limit = numbers.whole(CUT_LIMIT);
             int order = numbers.sizeOrder(floor, limit);
             boolean isWhole = rank[a] == 0 && numbers.areSame(place[a], Numbers.ONE);
-            // With the lower limit as its whole part a number is above that limit if it is not whole.
+            // One whose whole part is the lower limit is above that limit unless it is whole.
             return order > 0 || order == 0 && (!numbers.isBelow(floor) || isWhole);
         }
 
@@ -1370,14 +1369,10 @@ public final class RootTowers {
         int denested(int a, int s) {
             int bottom = place[a];
             int x = numbers.next(bottom);
-            int y = rank[a] == 0 ? -1 : numbers.next(x);
             if (numbers.isBelow(x)) {
                 return -1;
             }
-            int n = numbers.copied(x, 1);
-            if (y >= 0) {
-                n = numbers.exactRoot(field.norm(1, x));
-            }
+            int n = rank[a] == 0 ? x : numbers.exactRoot(field.norm(1, x));
             if (n < 0) {
                 return -1;
             }

@@ -471,7 +471,10 @@ public final class RandomRunsTest {
     }
 
     void apply() {
-        int a = any(), b = any(), op = random.nextInt(4);
+        apply(random.nextInt(4), any(), any());
+    }
+
+    void apply(int op, int a, int b) {
         Frac[] u = elements.get(a), v = elements.get(b);
         String call = "apply(" + op + ", " + a + ", " + b + ")";
         int got = x.apply(op, a, b);
@@ -508,7 +511,25 @@ public final class RandomRunsTest {
     }
 
     void root() {
-        int a = any();
+        root(any());
+    }
+
+    /** The root of a square, of a square times an element, or of a new element. */
+    void rootOfMade() {
+        int a = any(), kind = random.nextInt(4);
+        int before = elements.size();
+        if (kind == 3) {
+            apply(random.nextInt(2), any(), any());
+        } else {
+            apply(2, a, a);
+        }
+        if (kind == 0 && elements.size() > before) {
+            apply(2, any(), elements.size() - 1);
+        }
+        root(elements.size() - 1);
+    }
+
+    void root(int a) {
         Frac[] u = elements.get(a);
         String call = "root(" + a + ")";
         int before = x.told(0);
@@ -763,10 +784,13 @@ public final class RandomRunsTest {
 
     void run(int calls) {
         fraction();
+        boolean nested = seed % 3 == 0;
         for (int i = 0; i < calls; i++) {
             int pick = random.nextInt(100);
-            if (elements.isEmpty() || pick < 14) {
+            if (elements.isEmpty() || pick < (nested ? 7 : 14)) {
                 fraction();
+            } else if (nested && pick < 20) {
+                rootOfMade();
             } else if (pick < 44) {
                 apply();
             } else if (pick < 49) {
