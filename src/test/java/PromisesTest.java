@@ -187,6 +187,10 @@ public final class PromisesTest {
         due("level of nought", x.level(10), 0);
         due("0 / r1", x.apply(3, 10, 1), 11);
         due("text", text(x, 11), "0");
+        due("r1 + 0", text(x, x.apply(0, 1, 10)), "1*r1");
+        due("r1 - 0", text(x, x.apply(1, 1, 10)), "1*r1");
+        due("0 - r1", text(x, x.apply(1, 10, 1)), "-1*r1");
+        due("r1 times 0", text(x, x.apply(2, 1, 10)), "0");
         String before = state(x);
         due("1 / 0", x.apply(3, 0, 10), ZERO);
         due("0 / 0", x.apply(3, 10, 10), ZERO);
@@ -198,7 +202,7 @@ public final class PromisesTest {
             due("apply(" + w + ", 0, 10)", x.apply(w, 0, 10), NONE);
         }
         due("apply(4, 0, 0)", x.apply(4, 0, 0), NONE);
-        due("apply(0, 12, 0)", x.apply(0, 12, 0), NONE);
+        due("apply behind", x.apply(0, x.told(1), 0), NONE);
         due("state", state(x), before);
         RootTowers f = full();
         due("apply with 60", f.apply(0, 0, 0), NONE);
@@ -701,6 +705,15 @@ public final class PromisesTest {
         due("just below the lower", x.cut(x.apply(1, minus, small), 6), NONE);
         dueResult(x, "just above 0", x.cut(small, 3), "0");
         dueResult(x, "just below 0", x.cut(x.apply(1, x.fraction(0, 1), small), 3), "-1/1000");
+        int fine = x.apply(1, 1, x.fraction(1, 1));
+        for (int i = 0; i < 7; i++) {
+            fine = x.apply(2, fine, fine);
+        }
+        dueResult(x, "cut((r1 - 1)^128, 3)", x.cut(fine, 3), "0");
+        int under = x.apply(1, x.fraction(7, 2), fine);
+        dueResult(x, "cut(7/2 - (r1 - 1)^128, 1)", x.cut(under, 1), "17/5");
+        dueResult(x, "cut(7/2 + (r1 - 1)^128, 1)",
+            x.cut(x.apply(0, x.fraction(7, 2), fine), 1), "7/2");
         due("large", x.cut(ten(x, 59), 0), NONE);
         due("large with a root", x.cut(x.apply(2, ten(x, 30), 1), 0), NONE);
     }
