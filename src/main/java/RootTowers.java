@@ -6,8 +6,8 @@ import java.util.Arrays;
  *
  * <p>Inside, root k is held as a whole multiple R_k of r_k whose square has whole coordinates, so
  * that every number of the tower is a row of whole numbers over one whole bottom. A VECTOR of level
- * k is 2^k whole numbers, first those of x, then those of y, for x + y R_k. A RATIO is a bottom with
- * a vector behind it. All whole numbers lie in one row of cells that is used as a stack: what a
+ * k is 2^k whole numbers, first those of x, then those of y, for x + y R_k. A RATIO is a bottom
+ * with a vector behind it. All whole numbers lie in one row of cells that is used as a stack: what a
  * reckoning needs is put on top and taken off again, so that calls make no objects.
  */
 public final class RootTowers {
@@ -265,8 +265,8 @@ public final class RootTowers {
 
     /**
      * Whole numbers in one row of cells: at its address a number has twice the count of its limbs,
-     * and 1 more if it is below 0, and behind that the limbs, lowest first. What makes a number puts
-     * it on top.
+     * and 1 more if it is below 0, and behind that the limbs, lowest first. What makes a number
+     * puts it on top.
      */
     private static final class Numbers {
         static final int BASE = 1000000000;
@@ -351,7 +351,7 @@ public final class RootTowers {
             return true;
         }
 
-        /** Ends the number at p, of at most n limbs, without noughts in front; it is on top then. */
+        /** Ends the number at p, of at most n limbs, without noughts in front, as the top one. */
         int closed(int p, int n, boolean below) {
             int most = n;
             while (most > 0 && cell[p + most] == 0) {
@@ -867,7 +867,7 @@ public final class RootTowers {
             scale[0] = Numbers.ONE;
         }
 
-        /** A new root, of the number in a ratio of level k: times the bottom its square is whole. */
+        /** A new root, of a ratio of level k; the bottom times that root has a whole square. */
         void grow(int k, int ratio) {
             int wide = 1 << height;
             height++;
