@@ -1,3 +1,4 @@
+import java.math.BigInteger;
 import java.util.ArrayList;
 import java.util.HashMap;
 import java.util.List;
@@ -946,7 +947,7 @@ public final class EdgesTest {
             "RESULT = -1", "cut(13, 6) = 1", "RESULT = -1/1000000");
     }
 
-    /** r1 is the root of 6; 4 is 5 + 2 r1, 5 is 5 - 2 r1, 8 is -5 - 2 r1, 10 is r2, 12 is 5 + r1. */
+    /** r1 is the root of 6; 4 is 5 + 2 r1, 5 is 5 - 2 r1, 8 is -5 - 2 r1, 10 r2, 12 is 5 + r1. */
     static final String NESTED = "fraction(6, 1); root(0); fraction(5, 1); apply(0, 1, 1); "
         + "apply(0, 2, 3); apply(1, 2, 3); fraction(0, 1); fraction(-5, 1); apply(1, 7, 3); "
         + "fraction(5, 1); root(9); apply(0, 10, 1); apply(0, 2, 1)";
@@ -994,6 +995,88 @@ public final class EdgesTest {
             "RESULT = 3");
         after(both(TOWER[1], "fraction(1, 1); apply(0, 1, 2); apply(1, 2, 1)"),
             "! denest(3, 0) = NONE", "! denest(4, 0) = NONE", "! denest(4, 1) = NONE");
+    }
+
+    /** Writes a start that makes wide numbers, and counts its elements. */
+    static final class Maker {
+        static final int PIECE = 18;
+        String start = "fraction(1" + many("0", PIECE) + ", 1)";
+        int count = 1;
+
+        private int made(String call) {
+            start = both(start, call);
+            count++;
+            return count - 1;
+        }
+
+        int fraction(String up) {
+            return made("fraction(" + up + ", 1)");
+        }
+
+        int apply(int op, int a, int b) {
+            return made("apply(" + op + ", " + a + ", " + b + ")");
+        }
+
+        int root(int a) {
+            return made("root(" + a + ")");
+        }
+
+        int number(BigInteger n) {
+            String figures = n.toString();
+            int end = (figures.length() - 1) % PIECE + 1;
+            int e = fraction(figures.substring(0, end));
+            for (; end < figures.length(); end += PIECE) {
+                int raised = apply(2, e, 0);
+                e = apply(0, raised, fraction(figures.substring(end, end + PIECE)));
+            }
+            return e;
+        }
+    }
+
+    static String lowest(BigInteger up, BigInteger down) {
+        BigInteger common = up.gcd(down);
+        return up.divide(common) + "/" + down.divide(common);
+    }
+
+    /**
+     * With 2 m m + l l = s the roots of 2 m m / s and of l l / s have 1 + 2 m l / s times the root
+     * of 2 as the square of their sum. If a divisor of m and one of s are taken into r1, that
+     * element is not WIDE, though s has many more than 60 figures.
+     */
+    static void denestBeyondSixty() {
+        of("Promise 15: results u, v (WIDE is not named here)");
+        BigInteger c = new BigInteger("31415926535897");
+        BigInteger d = new BigInteger("27182818284591");
+        BigInteger e = new BigInteger("14142135623730950488016887243");
+        BigInteger g = new BigInteger("17320508075688772935274463415");
+        BigInteger h = e.subtract(c.multiply(g).multiply(d.modInverse(e)).mod(e));
+        BigInteger two = BigInteger.valueOf(2);
+        BigInteger l = d.multiply(g).subtract(two.multiply(c).multiply(h)).abs();
+        BigInteger m = d.multiply(h).add(c.multiply(g));
+        BigInteger b = d.pow(2).add(two.multiply(c.pow(2)));
+        BigInteger s = two.multiply(m.pow(2)).add(l.pow(2));
+        Maker maker = new Maker();
+        int outside = maker.apply(3, maker.number(e), maker.number(b));
+        int square = maker.apply(2, outside, outside);
+        int r1 = maker.root(maker.apply(2, square, maker.fraction("2")));
+        int up = maker.number(two.multiply(l).multiply(m.divide(e)));
+        int y = maker.apply(3, up, maker.number(s.divide(b)));
+        int part = maker.apply(2, y, r1);
+        int one = maker.fraction("1");
+        int sum = maker.apply(0, one, part);
+        int difference = maker.apply(1, one, part);
+        String first = lowest(two.multiply(m.pow(2)), s);
+        String second = lowest(l.pow(2), s);
+        boolean firstIsMore = two.multiply(m.pow(2)).compareTo(l.pow(2)) > 0;
+        for (int a = sum; a <= difference; a++) {
+            after(maker.start, "told(0) = 1", "told(1) = " + (difference + 1),
+                "level(" + a + ") = 1", "denest(" + a + ", 0) = 1",
+                "RESULT = " + (firstIsMore ? first : second),
+                "denest(" + a + ", 1) = 1", "RESULT = " + (firstIsMore ? second : first));
+        }
+        if (first.length() < 160 || second.length() < 160) {
+            report("the numbers of this test are too short");
+        }
     }
 
     // Promises 16 to 21
@@ -1348,6 +1431,7 @@ public final class EdgesTest {
         denestLevels();
         denestSigns();
         denestOfNone();
+        denestBeyondSixty();
     }
 
     static void promises16To21() {

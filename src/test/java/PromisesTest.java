@@ -70,9 +70,8 @@ public final class PromisesTest {
     }
 
     static String state(RootTowers x) {
-        StringBuilder s = new StringBuilder(x.told(0) + " roots, " + x.told(1) + " elements, result "
-            + result(x) + ", text " + letters(x));
-        return s.toString();
+        return x.told(0) + " roots, " + x.told(1) + " elements, result " + result(x) + ", text "
+            + letters(x);
     }
 
     /** Elements 0 to 3: 2, its root r1, 3, its root r2. */

@@ -430,7 +430,8 @@ public final class RandomRunsTest {
     void checkElement(int a) {
         Frac[] got = readElement(a);
         for (int i = 0; i < 16; i++) {
-            due("coordinate(" + a + ", " + i + ")", got[i].toString(), elements.get(a)[i].toString());
+            due("coordinate(" + a + ", " + i + ")", got[i].toString(),
+                elements.get(a)[i].toString());
         }
         due("level(" + a + ")", x.level(a), Tower.rank(elements.get(a)));
     }
@@ -616,7 +617,7 @@ public final class RandomRunsTest {
         checkEquation(a, u, coefficients);
     }
 
-    /** Solves for the WIDE ones is not needed if there is none; else only their width is looked at. */
+    /** Of those that were WIDE only their width is looked at. */
     void checkEquation(int a, Frac[] u, Frac[] coefficients) {
         int d = coefficients.length - 1;
         boolean whole = true;
@@ -637,7 +638,8 @@ public final class RandomRunsTest {
             if (coefficients[i] == null) {
                 due("equation(" + a + ", " + i + ") wide", full[i].wide(400), true);
             } else {
-                due("equation(" + a + ", " + i + ")", coefficients[i].toString(), full[i].toString());
+                due("equation(" + a + ", " + i + ")", coefficients[i].toString(),
+                    full[i].toString());
             }
         }
     }
@@ -698,7 +700,8 @@ public final class RandomRunsTest {
         due(call + " whole", result.times(ten).down, ONE);
         Frac[] left = Tower.sum(u, Tower.of(result), -1);
         due(call + " at most", tower.signum(left) >= 0, true);
-        due(call + " greatest", tower.signum(Tower.sum(left, Tower.of(ten.inverse()), -1)) < 0, true);
+        Frac[] beyond = Tower.sum(left, Tower.of(ten.inverse()), -1);
+        due(call + " greatest", tower.signum(beyond) < 0, true);
     }
 
     void denest() {
